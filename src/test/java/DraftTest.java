@@ -120,6 +120,7 @@ public final class DraftTest {
         tokens("a_b'c", 3);
         tokens("x1Y2z3 4", 2);
         tokens("@az[AZ`09{/:", 3);
+        tokens("a-z-A-Z-0-9", 6);
         tokens("a a a a a a a a a a a a a a a a a a a a a a a a", 24);
         tokens("aaaaaaaaaaaaaaaaaaaaaaaaaaaaaaaaaaaaaaaaaaaaaaaa", 1);
         PhraseShelf x = new PhraseShelf();

@@ -36,6 +36,9 @@ public final class QuestionsTest {
         DUE.finds(x, "\"cat\"", "1 2 3");
         DUE.finds(x, "\"?cat!\"", "1 2 3");
         DUE.finds(x, "ca", "");
+        Due.insert(x, "aA zZ", "0 9 A Z 0a9");
+        DUE.finds(x, "AA + zz", "6");
+        DUE.finds(x, "\"0 9 a z 0A9\"", "6");
         DUE.finds(x, "42", "3");
         DUE.finds(x, "4", "4");
         DUE.finds(x, "and", "2");
@@ -44,7 +47,7 @@ public final class QuestionsTest {
         DUE.finds(x, "\"NEAR\" \"OR\"", "4");
         DUE.finds(x, "near", "4");
         DUE.finds(x, "NEARcat OR ANDcat OR catNOT", "");
-        DUE.finds(x, "a", "1");
+        DUE.finds(x, "a", "1 6");
         DUE.finds(x, "\"a:dog\"", "1");
         DUE.finds(x, "\"\"", "");
         DUE.finds(x, "\" ?\"", "");

@@ -123,6 +123,13 @@ public final class TransactionsTest {
         x.rollback();
         DUE.same("nothing pending as it was", x.count(2), 0);
         DUE.same("flush() of nothing", x.flush(), 1);
+        Due.insert(x, "i", "");
+        x.begin();
+        x.flush();
+        Due.insert(x, "j", "k");
+        x.rollback();
+        DUE.same("flush() of what was pending before the flush", x.flush(), 2);
+        DUE.sameText("row 2, not row 3", Due.segments(x), "0:1:3 0:1:1");
     }
 
     private static void whatStays() {
