@@ -104,7 +104,8 @@ final class Due {
     /** All segments, the oldest first, each as level:versions:entries. */
     static String segments(PhraseShelf x) {
         StringBuilder all = new StringBuilder();
-        for (int k = 0; k < x.count(1); k++) {
+        int size = x.count(1);
+        for (int k = 0; k < size; k++) {
             all.append(k == 0 ? "" : " ").append(x.segment(k, 0)).append(':')
                     .append(x.segment(k, 1)).append(':').append(x.segment(k, 2));
         }
