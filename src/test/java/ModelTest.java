@@ -41,7 +41,11 @@ public final class ModelTest {
         }
     }
 
+    /** Behind the last call that the document promises anything of nothing is compared. */
     private void compare(String name, Call program, Call due) {
+        if (calls >= CALLS) {
+            return;
+        }
         calls++;
         DUE.sameText("run " + run + " call " + calls + " " + name, told(program), told(due));
     }
