@@ -27,6 +27,7 @@ public final class QuestionsEdgesTest {
         answersStayUntilTheNextGoodOne();
         rowsAsTheyAreNow();
         draftOf96();
+        asManyTokensAsCanBe();
         DUE.end();
     }
 
@@ -447,5 +448,26 @@ public final class QuestionsEdgesTest {
         DUE.finds(x, "(" + " ".repeat(93) + "p)", "1");
         DUE.finds(x, "p" + "+p".repeat(47), "");
         DUE.finds(x, "p" + "+p".repeat(47) + "*", "");
+    }
+
+    /** Twelve phrases of four tokens, 48 in all: each of them counts, the last one too. */
+    private static void asManyTokensAsCanBe() {
+        String four = "p+q+r+s";
+        for (int other = 0; other < 12; other++) {
+            for (int token = 0; token < 4; token++) {
+                StringBuilder question = new StringBuilder();
+                for (int i = 0; i < 12; i++) {
+                    String phrase = i == other ? four.substring(0, 2 * token) + "t" + four.substring(2 * token + 1) : four;
+                    question.append(i == 0 ? "" : " ").append(phrase);
+                }
+                PhraseShelf x = with("p q r s", "p q r s t q r s p t r s p q t s p q r t");
+                DUE.finds(x, question.toString(), "2");
+                DUE.finds(x, question + "*", "2");
+            }
+        }
+        PhraseShelf x = with("p q r s", "p q r st");
+        DUE.finds(x, (four + " ").repeat(12), "1");
+        DUE.finds(x, (four + " ").repeat(11) + four + "*", "1");
+        DUE.finds(x, (four + "*").repeat(12), "1 2");
     }
 }

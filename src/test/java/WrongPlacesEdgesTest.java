@@ -10,6 +10,7 @@ public final class WrongPlacesEdgesTest {
         everyLetterInNear();
         theEndAtEveryLength();
         stringsWithoutTheirEnd();
+        asManyPartsAsCanBe();
         everyNumber();
         filterNames();
         stringsBehindMinus();
@@ -132,6 +133,28 @@ public final class WrongPlacesEdgesTest {
         at("p ) \"", 2);
         good("\"\"");
         good("\"p\"\"q\"");
+    }
+
+    /** 96 letters of which each is a part: what is wrong is told at the last one and at the end too. */
+    private static void asManyPartsAsCanBe() {
+        String pluses = "p+".repeat(47);
+        good(pluses + "p");
+        good(pluses + "p*");
+        at(pluses + "p+", 96);
+        at(pluses + "p\"", 95);
+        at(pluses + "p)", 95);
+        at(pluses + "p?", 95);
+        at(pluses + "p(", 96);
+        at(pluses + "p-", 96);
+        at(pluses + "p^", 96);
+        at(pluses + "p:", 94);
+        at(pluses + "++", 94);
+        good(pluses + "\"\"");
+        at(pluses + "\"p", 94);
+        for (char c : "+*:,)^-(?\"".toCharArray()) {
+            at("+".repeat(95) + c, 0);
+            at(("" + c).repeat(96), c == '(' ? 8 : c == '^' || c == '-' ? 1 : c == '"' ? 24 : 0);
+        }
     }
 
     private static void everyNumber() {
